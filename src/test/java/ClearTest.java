@@ -17,6 +17,7 @@ public final class ClearTest {
         check.due("run() sees no old bytes", 0, x::run);
         check.due("steps of two bytes", 2, () -> x.told(4));
         roomIsThereAgain(check);
+        oldBytesMakeNoMark(check);
         nothingBefore(check);
         check.end();
     }
@@ -28,6 +29,15 @@ public final class ClearTest {
         }
         x.clear();
         check.due("feed", 8, () -> x.feed(1, 8));
+    }
+
+    private static void oldBytesMakeNoMark(Check check) {
+        MarkRecovery x = new MarkRecovery(0, 500);
+        Check.feed(x, Check.same(217, 16));
+        x.clear();
+        Check.feed(x, Check.join(Check.part(0, 3, 1), Check.broken(0, 1, 2, 255)));
+        check.due("run()", 2, x::run);
+        check.due("half a mark is data", 3, () -> x.part(1, 3));
     }
 
     private static void nothingBefore(Check check) {

@@ -90,12 +90,22 @@ public final class DecodeTest {
             1, arg(4, 13), 3, arg(4, 0), 1, arg(1, 5), 5, arg(1, 0)};
         int[] end = {3, 1, 3, 1, 3, 1, 3, 1, 3, 1, 3, 1, 7, 7};
         dueMade(check, 3, Check.join(rows, end), 5, 0, 19, 0, 19, 0, 5, 0, 3, 0, 3, 3, 3, 3, 3, 3);
+        beforeTheFirstStandsZero(check);
         int[] kinds = {1, arg(6, 3), 0, arg(6, 4), 2, arg(6, 0), 1, arg(6, 3), 4, arg(6, 0), 5, arg(6, 0)};
         int[] tail = Check.same(3, 28);
         for (int i = 1; i < 28; i += 2) {
             tail[i] = arg(6, 0);
         }
         dueMade(check, 3, Check.join(kinds, tail), Check.join(new int[] {4, 4}, Check.same(1, 14)));
+    }
+
+    private static void beforeTheFirstStandsZero(Check check) {
+        int[] data = Check.same(5, 36);
+        System.arraycopy(new int[] {1, arg(0, 3), 4, arg(0, 0)}, 0, data, 0, 4);
+        for (int i = 5; i < 36; i += 2) {
+            data[i] = arg(0, 0);
+        }
+        dueMade(check, 3, data, new int[16]);
     }
 
     private static void codeThreeThrows(Check check) {

@@ -4,6 +4,7 @@ public final class FillTest {
         Check check = new Check();
         nothingTold(check);
         rowsBetween(check);
+        theFirstRowTold(check);
         meansRoundDown(check);
         filledBecomesTold(check);
         guessedIsTold(check);
@@ -44,6 +45,15 @@ public final class FillTest {
         check.dueSamples(x, 16, 1, Check.rising(10, 16));
         check.dueSamples(x, 32, 3, Check.same(255, 32));
         check.dueSamples(x, 80, 3, Check.same(255, 176));
+    }
+
+    private static void theFirstRowTold(Check check) {
+        MarkRecovery x = Check.ran(0, 100, Check.part(0, 0, 0, Check.rising(10, 16)));
+        x.decodeAll();
+        check.due("fill(2)", 240, () -> x.fill(2));
+        for (int row = 1; row < 16; row++) {
+            check.dueSamples(x, 16 * row, 3, Check.rising(10, 16));
+        }
     }
 
     private static void meansRoundDown(Check check) {

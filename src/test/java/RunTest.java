@@ -10,6 +10,7 @@ public final class RunTest {
         placesBetweenParts(check);
         guesses(check);
         whereGuessedDataEnd(check);
+        halfAMarkAtTheVeryEnd(check);
         stepsRunOut(check);
         sixteenParts(check);
         samplesAreUntold(check);
@@ -133,6 +134,15 @@ public final class RunTest {
         dueRun(check, "steps end with a part", 1, 4, with);
         MarkRecovery most = fed(0, 65536, new int[1200]);
         dueRun(check, "steps for all", 0, 1200, most);
+    }
+
+    private static void halfAMarkAtTheVeryEnd(Check check) {
+        for (int kind = 0; kind < 3; kind++) {
+            int half = Check.head(kind, 0, 0, 0)[0];
+            dueRun(check, "1,200 bytes", 0, 1200, fed(kind, 65536, new int[1199], new int[] {half}));
+            MarkRecovery x = fed(kind, 65536, new int[1185], Check.part(kind, 3, 0), Check.broken(kind, 1, 2, half));
+            dueRun(check, "1,200 bytes with a guess", 2, 1185 + 1 + 1 + 3, x);
+        }
     }
 
     private static void sixteenParts(Check check) {
