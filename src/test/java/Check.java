@@ -45,6 +45,13 @@ final class Check {
         due("state(" + sample + ")", state, () -> x.state(sample));
     }
 
+    /** A run with so many parts by so many steps. */
+    void dueRun(MarkRecovery x, int parts, int steps) {
+        due("run()", parts, x::run);
+        due("told(3)", parts, () -> x.told(3));
+        due("told(4)", steps, () -> x.told(4));
+    }
+
     /** All that part() tells of a part, 0 to 5. */
     void duePart(MarkRecovery x, int k, int... wants) {
         for (int what = 0; what < wants.length; what++) {
@@ -64,6 +71,14 @@ final class Check {
     private void tellWrong(String call, String got, String want) {
         wrong++;
         System.out.println(call + " " + got + ", " + want);
+    }
+
+    int calls() {
+        return calls;
+    }
+
+    int wrong() {
+        return wrong;
     }
 
     void end() {
@@ -128,6 +143,18 @@ final class Check {
         int[] bytes = new int[length];
         java.util.Arrays.fill(bytes, value);
         return bytes;
+    }
+
+    /** 1,200 bytes: zeros, then these. */
+    static int[] full(int... last) {
+        return join(new int[1200 - last.length], last);
+    }
+
+    /** A new object that was fed these bytes, and no more. */
+    static MarkRecovery fed(int kind, int steps, int[]... pieces) {
+        MarkRecovery x = new MarkRecovery(kind, steps);
+        feed(x, join(pieces));
+        return x;
     }
 
     /** A new object that was fed these bytes and was run. */

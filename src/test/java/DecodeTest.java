@@ -16,25 +16,12 @@ public final class DecodeTest {
         check.end();
     }
 
-    /** The data give these 16 samples. */
     private static void dueMade(Check check, int code, int[] data, int... samples) {
-        for (int row = 0; row < 16; row += 15) {
-            MarkRecovery x = Check.ran(0, 100, Check.part(0, row, code, data));
-            check.due("decode of code " + code, 0, () -> x.decode(0));
-            check.due("part(0, 5)", 0, () -> x.part(0, 5));
-            check.dueSamples(x, 16 * row, 1, samples);
-            check.due("told(8)", 16, () -> x.told(8));
-        }
+        Codes.dueMade(check, code, data, samples);
     }
 
-    /** Something is thrown by the data. */
     private static void dueThrown(Check check, int code, int thrown, int... data) {
-        MarkRecovery x = Check.ran(0, 100, Check.part(0, 3, code, data));
-        String name = "decode of code " + code + ", " + java.util.Arrays.toString(data);
-        check.due(name, thrown, () -> x.decode(0));
-        check.due(name + ": part(0, 5)", thrown, () -> x.part(0, 5));
-        check.dueSamples(x, 48, 0, Check.same(MarkRecovery.NONE, 16));
-        check.dueTold(x, 0, 100, data.length + 6, 1, 1, 0, 1, 1, 0);
+        Codes.dueThrown(check, code, thrown, data);
     }
 
     private static void codeZero(Check check) {
@@ -74,7 +61,7 @@ public final class DecodeTest {
     }
 
     private static int arg(int box, int number) {
-        return 8 * number + box;
+        return Codes.arg(box, number);
     }
 
     private static void codeThreeTells(Check check) {
