@@ -30,6 +30,7 @@ final class BoxEdges {
                 .edge("in the place of a number, and of a row", BoxEdges::rowInsteadOf);
         edges.sentence("below 0: THROWN 5;")
                 .edge("-2 and -1", BoxEdges::rowsBelowZero)
+                .edge("0 is not below 0", check -> dueFirst(check, ops(ROW, 1, 2, ROW, 1, 10, ROW, 1, 26)))
                 .edge("wrap-around: arg / 8 is 8, 9, 24 and 25", BoxEdges::rowsBelowZeroWrapAround)
                 .edge("whatever is in the box", BoxEdges::rowsBelowZeroInsteadOf);
         readEdges(edges);

@@ -146,7 +146,9 @@ final class HeadEdges {
     private static void headsCutOff(Check check) {
         int[] head = Check.head(1, 3, 1, 0);
         for (int length = 2; length < 6; length++) {
-            check.dueRun(Check.fed(1, 99, Arrays.copyOf(head, length)), 0, length);
+            int[] cut = Arrays.copyOf(head, length);
+            check.dueRun(Check.fed(1, 99, cut), 0, length);
+            check.dueRun(Check.fed(1, 99, head, cut), 1, 1 + length);
         }
         check.dueRun(Check.fed(1, 99, head), 1, 1);
     }

@@ -22,9 +22,10 @@ final class Twins {
             MarkRecovery x = maker.make();
             MarkRecovery twin = maker.make();
             check.dueThrow(name, thrown, () -> call.of(x));
+            // First what never throws: calls that throw could change the twin alike.
+            dueSameTold(check, name, x, twin);
             dueSameSamples(check, name, x, twin, first);
             dueSameParts(check, name, x, twin);
-            dueSameTold(check, name, x, twin);
             dueSame(check, name + ", then decodeAll()", x, twin, MarkRecovery::decodeAll);
             dueSameTold(check, name, x, twin);
             dueSame(check, name + ", then run()", x, twin, MarkRecovery::run);
